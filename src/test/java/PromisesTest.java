@@ -245,6 +245,10 @@ public final class PromisesTest {
         c.same("13 a bond where a closure is closed", x.told(1), bonds.length);
         for (int k = 0; k < bonds.length; k++)
             c.same("13 bond " + k, x.bondTold(k, 1) + " " + x.bondTold(k, 2) + " " + x.bondTold(k, 0), bonds[k][0] + " " + bonds[k][1] + " " + bonds[k][2]);
+        c.same("13 a branch open at the end", Checks.read(x, "a(b"), -4);
+        c.same("13 closed behind it", Checks.read(x, ")c"), 3);
+        c.same("13 a sign at the end", Checks.read(x, "a="), -3);
+        c.same("13 its atom behind it", Checks.read(x, "bc") * 10 + x.bondTold(1, 0), 30);
         c.same("13 in place of it", Checks.read(x, "a"), 1);
         c.same("13 no bonds then", x.told(1), 0);
         c.same("13 a figure open beyond a .", Checks.read(x, "a1.b=1"), 2);
@@ -437,6 +441,8 @@ public final class PromisesTest {
         c.refused("16 no byte", INDEX, () -> ten.written(0));
         ten.clear();
         c.same("16 without atoms", ten.write(), 0);
+        Checks.read(ten, "a5bc5");
+        c.same("16 figures are free again", Checks.written(ten), "a1bc1");
     }
 
     /** A row of atoms, from each of the first ones a closure to one of the last. */
@@ -475,6 +481,11 @@ public final class PromisesTest {
         c.same("18 all", x.search(), 7);
         x.clear();
         c.same("18 no molecule", x.search(), 0);
+        Checks.read(x, "a1aa1b");
+        Checks.pattern(x, "[?!]");
+        c.same("18 atoms in a ring", x.search(), 3);
+        x.cut(0);
+        c.same("18 as they are now", x.search(), 0);
         RingSearch dense = Checks.molecule("a123a45a16a24a356");
         Checks.pattern(dense, "?????");
         c.same("18 rows of five atoms all bonded", dense.search(), 120);

@@ -100,21 +100,31 @@ public final class RandomRunsTest {
         return out.toString();
     }
 
-    /** Lines near the limits: many atoms, bonds, branches, closures. */
+    /** Lines near the limits: many atoms, bonds, branches, and closures that mostly can be. */
     private String bigLine(boolean pattern) {
         int atoms = pattern ? 8 + random.nextInt(4) : 18 + random.nextInt(16);
-        int figures = random.nextInt(10);
+        int closures = random.nextInt(3), branches = 2 + random.nextInt(12), ends = 1 + random.nextInt(12);
+        int[] openAt = new int[10];
         StringBuilder out = new StringBuilder();
         int open = 0;
-        for (int i = 0; i < atoms; i++) {
+        for (int i = 1; i <= atoms; i++) {
             out.append(pattern && random.nextInt(9) == 0 ? "[a=1]" : "a");
-            for (int n = random.nextInt(4); figures > 0 && n > 0; n--) out.append(1 + random.nextInt(figures));
-            if (i + 1 == atoms) break;
-            while (open > 0 && random.nextInt(3) == 0) { out.append(')'); open--; }
-            if (random.nextInt(4) == 0) { out.append('('); open++; }
+            for (int n = random.nextInt(closures + 1); n > 0; n--) out.append(bigFigure(openAt, i, random.nextInt(40) == 0));
+            if (i == atoms) break;
+            while (open > 0 && random.nextInt(ends) == 0) { out.append(')'); open--; }
+            if (random.nextInt(branches) < 2) { out.append('('); open++; }
         }
         out.append(")".repeat(open));
+        for (int i = atoms + 3, n = 0; n < 6; n++) out.append(random.nextInt(3) == 0 ? "" : "a" + bigFigure(openAt, i, false));
         return out.toString();
+    }
+
+    /** A figure that opens a closure, or closes one that an atom some way back has opened. */
+    private String bigFigure(int[] openAt, int atom, boolean anyhow) {
+        int figure = 1 + random.nextInt(9);
+        if (openAt[figure] > atom - 2 && openAt[figure] != 0 && !anyhow) return "";
+        openAt[figure] = openAt[figure] == 0 ? atom : 0;
+        return "" + figure;
     }
 
     // ---- molecules
@@ -224,6 +234,10 @@ public final class RandomRunsTest {
         if (again.fault == 2) return;
         c.same(name + " read again", again.fault, 0);
         c.same(name + " bonds again", again.net.bonds.size(), g.bonds.size());
+        RingSearch y = new RingSearch();
+        c.same(name + " atoms again", Checks.read(y, due), g.labels.size());
+        sameNet(name + " read again", y, again.net);
+        c.same(name + " written again", Checks.written(y) != null, true);
     }
 
     private void patterns(String name, RingSearch x, Oracle.Net g) {
@@ -262,6 +276,7 @@ public final class RandomRunsTest {
                 default -> g = anew(x, g);
             }
             if (turn % 3 == 0 && g.bonds.size() - g.labels.size() < 10) allTold("changes " + i, x, g);
+            if (turn % 4 == 0 && g.bonds.size() - g.labels.size() < 8) patterns("changes " + i, x, g);
         }
     }
 
