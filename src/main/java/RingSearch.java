@@ -315,7 +315,8 @@ public final class RingSearch {
             high[bonds] = Math.max(a, b);
             sort[bonds] = itsSort;
             bondRingWant[bonds] = itsRingWant;
-            link(bonds);
+            linkOneWay(a, b, bonds);
+            linkOneWay(b, a, bonds);
             bonds++;
             version++;
             return bonds - 1;
@@ -376,13 +377,9 @@ public final class RingSearch {
                 near[a] = 0;
             }
             for (int k = 0; k < bonds; k++) {
-                link(k);
+                linkOneWay(low[k], high[k], k);
+                linkOneWay(high[k], low[k], k);
             }
-        }
-
-        private void link(int bond) {
-            linkOneWay(low[bond], high[bond], bond);
-            linkOneWay(high[bond], low[bond], bond);
         }
 
         /** Bonds are linked by their numbers, so each atom's row has them in that order. */
@@ -836,7 +833,7 @@ public final class RingSearch {
                 return stepInSet(c);
             }
             if (isLetter(c)) {
-                return takeAtom(ofPattern ? 1 << c - 'a' : c - 'a');
+                return takeAtom(ofPattern ? 1 << c - 'a' : c - 'a', BEHIND_ATOM);
             }
             if (c >= '1' && c <= '9') {
                 return takeFigure(c - '0');
@@ -877,9 +874,9 @@ public final class RingSearch {
                 case '/':
                     return takeSignRing(IN_NO_RING);
                 case '?':
-                    return takeAtom(ALL_LABELS);
+                    return takeAtom(ALL_LABELS, BEHIND_ATOM);
                 case '[':
-                    return openSet();
+                    return takeAtom(0, IN_SET);
                 default:
                     return WRONG_BYTE;
             }
@@ -889,7 +886,8 @@ public final class RingSearch {
             return c >= 'a' && c < 'a' + LABELS;
         }
 
-        private int takeAtom(int label) {
+        /** An atom whose labels stand in [ ] comes at the [ , so that no room for it is told there. */
+        private int takeAtom(int label, int stateBehind) {
             if (draft.atoms >= mostAtoms) {
                 return NO_ROOM;
             }
@@ -907,7 +905,7 @@ public final class RingSearch {
             }
             last = atom;
             sign = 0;
-            state = BEHIND_ATOM;
+            state = stateBehind;
             return 0;
         }
 
@@ -995,15 +993,6 @@ public final class RingSearch {
             last = branchAtom[depth];
             state = BEHIND_BRANCH;
             return 0;
-        }
-
-        /** The atom comes at its [ , so that no room for it is told there. */
-        private int openSet() {
-            int fault = takeAtom(0);
-            if (fault == 0) {
-                state = IN_SET;
-            }
-            return fault;
         }
 
         private int stepInSet(int c) {
@@ -1108,23 +1097,20 @@ public final class RingSearch {
             lacksFigure = false;
             Arrays.fill(figureOf, 0);
             for (int a = 0; a < g.atoms && !lacksFigure; a++) {
-                if (!hasBit(met, a)) {
-                    writePart(g, a);
+                if (hasBit(met, a)) {
+                    continue;
                 }
+                if (length > 0) {
+                    put('.');
+                }
+                findLeading(g, a, 0);
+                writeFrom(g, a, NONE, 0);
             }
             if (lacksFigure) {
                 length = 0;
                 return NONE;
             }
             return length;
-        }
-
-        private void writePart(Graph g, int first) {
-            if (length > 0) {
-                put('.');
-            }
-            findLeading(g, first, 0);
-            writeFrom(g, first, NONE, 0);
         }
 
         private void findLeading(Graph g, int atom, int depth) {

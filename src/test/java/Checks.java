@@ -5,11 +5,15 @@ final class Checks {
     interface Call { Object get(); }
 
     private int passed = 0, failed = 0;
+    private String test = "";
+
+    /** Checks that follow belong to the test of this name. */
+    void under(String name) { test = name + ": "; }
 
     void same(String what, Object got, Object want) {
         if (Objects.equals(got, want)) { passed++; return; }
         failed++;
-        if (failed <= 50) System.out.println("FAILED " + what + ": got " + got + ", due is " + want);
+        if (failed <= 50) System.out.println("FAILED " + test + what + ": got " + got + ", due is " + want);
     }
 
     /** An exception is due, of just this class. */

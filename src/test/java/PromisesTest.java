@@ -328,10 +328,10 @@ public final class PromisesTest {
         int got = ofPattern ? x.pattern() : x.read();
         String name = (ofPattern ? "14 " : "13 ") + line;
         c.same("15 fault of " + name, x.fault(), code);
-        if (code == 0) { c.same("taken " + name, got > 0 && x.told(9) == 0, true); return; }
-        c.same("place of " + name, got, -1 - place);
-        c.same("nothing changes " + name, x.told(0) + " " + x.told(1) + " " + x.told(6) + " " + x.told(7) + " " + x.told(9), "4 4 2 1 " + line.length());
-        c.same("the molecule stays " + name, x.atomTold(0, 0) + " " + x.told(3) + " " + x.search(), "15 1 1");
+        if (code == 0) { c.same(name + " is taken", got > 0 && x.told(9) == 0, true); return; }
+        c.same(name + ": the place of its fault", got, -1 - place);
+        c.same(name + ": nothing changes", x.told(0) + " " + x.told(1) + " " + x.told(6) + " " + x.told(7) + " " + x.told(9), "4 4 2 1 " + line.length());
+        c.same(name + ": the molecule stays", x.atomTold(0, 0) + " " + x.told(3) + " " + x.search(), "15 1 1");
     }
 
     private void pattern() {
