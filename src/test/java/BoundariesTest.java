@@ -666,6 +666,12 @@ public final class BoundariesTest {
         is("of six", x.ring(1), 0b111111L);
     }
 
+    private void promise08_a_ring_of_two_bonds_each_behind_a_lesser_atom() {
+        RingSearch x = made(4, new int[][] {{0, 3}, {1, 2}, {2, 3}, {3, 1}});
+        is("ring", x.told(3) * 100 + x.ring(0), 114L);
+        is("the lesser atom is in none", x.atomTold(0, 3), 0);
+    }
+
     private void promise08_of_one_size_the_lesser_number_comes_first() {
         RingSearch x = made(5, new int[][] {{0, 2}, {0, 3}, {0, 4}, {1, 2}, {1, 3}, {1, 4}});
         is("two of three", x.told(3), 2);
@@ -917,6 +923,21 @@ public final class BoundariesTest {
         is("again", x.read(), -4);
         is("mended behind it", Checks.read(x, "c1"), 3);
         is("its ring", x.told(3), 1);
+    }
+
+    private void promise13_nothing_of_a_faulty_line_is_left() {
+        String[] lines = {"a(b", "a=", "a(b)#", "a(=", "a1b", "a=1b", "a."};
+        String[] behind = {")c", "bc", "bc", "b)c", "c1", "c1", "bc"};
+        int[] sorts = {0, 1, 0, 1, 0, 0, 0};
+        for (int i = 0; i < lines.length; i++) {
+            RingSearch x = new RingSearch();
+            is("faulty " + lines[i], Checks.read(x, lines[i]), -1 - lines[i].length());
+            String whole = lines[i] + behind[i];
+            is("mended " + whole, Checks.read(x, behind[i]), Lines.atomsOf(whole));
+            is("first bond of " + whole, x.bondTold(0, 0), sorts[i]);
+            is("a line behind it", Checks.read(x, "abc"), 3);
+            is("its first bond", x.bondTold(0, 0), 0);
+        }
     }
 
     private void promise13_which_bytes_can_stand_where() {
@@ -1744,6 +1765,22 @@ public final class BoundariesTest {
         is("one", x.sets(), 1);
     }
 
+    private void promise20_one_place() {
+        RingSearch x = Checks.molecule("ab");
+        Checks.pattern(x, "b");
+        is("found", x.search(), 1);
+        is("one", x.sets(), 1);
+    }
+
+    private void promise20_each_search_is_counted_anew() {
+        RingSearch x = circle(5);
+        Checks.pattern(x, "??");
+        for (int i = 0; i < 3; i++) is("found", x.search() * 100 + x.sets(), 1005);
+        x.cut(0);
+        x.search();
+        is("one bond less", x.sets(), 4);
+    }
+
     private void promise20_of_those_kept_alone() {
         RingSearch x = twoThousandAnd(0, 4);
         x.search();
@@ -1831,6 +1868,7 @@ public final class BoundariesTest {
 
     private void promise22_no_atoms_then() {
         RingSearch x = mostRings();
+        is("before", x.told(2) + " " + x.told(3) + " " + x.told(5) + " " + x.cycles(3), "2 28 2 61");
         x.clear();
         for (int what = 0; what <= 5; what++) is("told(" + what + ")", x.told(what), 0);
         refused("atom 0", INDEX, () -> x.atomTold(0, 0));
