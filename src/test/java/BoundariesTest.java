@@ -1,8 +1,4 @@
-import java.lang.reflect.InvocationTargetException;
-import java.lang.reflect.Method;
 import java.util.ArrayList;
-import java.util.Arrays;
-import java.util.Comparator;
 import java.util.List;
 
 /**
@@ -17,7 +13,6 @@ public final class BoundariesTest {
     private static final int NONE = RingSearch.NONE;
     private static final int LEAST = Integer.MIN_VALUE;
     private static final int MOST = Integer.MAX_VALUE;
-    private static final int PROMISES = 22;
 
     /** All seven atoms bonded: 21 bonds, each atom has 6. */
     private static final int[][] K7 = allPairs(7);
@@ -26,26 +21,8 @@ public final class BoundariesTest {
 
     public static void main(String[] args) throws Exception {
         BoundariesTest t = new BoundariesTest();
-        int[] tests = new int[PROMISES + 1];
-        Method[] methods = BoundariesTest.class.getDeclaredMethods();
-        Arrays.sort(methods, Comparator.comparing(Method::getName));
-        for (Method m : methods) {
-            if (!m.getName().startsWith("promise")) continue;
-            tests[Integer.parseInt(m.getName().substring(7, 9))]++;
-            t.run(m);
-        }
-        t.c.under("all promises");
-        for (int p = 1; p <= PROMISES; p++) t.c.same("promise " + p + " has tests", tests[p] > 0, true);
+        t.c.runPromises(t);
         System.exit(t.c.end("BoundariesTest"));
-    }
-
-    private void run(Method m) throws IllegalAccessException {
-        c.under(m.getName());
-        try {
-            m.invoke(this);
-        } catch (InvocationTargetException e) {
-            c.same("ends by itself", e.getCause().toString(), "no exception");
-        }
     }
 
     // ==== helpers

@@ -1,8 +1,16 @@
+import java.lang.reflect.InvocationTargetException;
+import java.lang.reflect.Method;
+import java.util.Arrays;
+import java.util.Comparator;
 import java.util.Objects;
+import java.util.Set;
+import java.util.TreeSet;
 
 /** Counts checks and prints those that fail; and the few ways in which all tests use the class. */
 final class Checks {
     interface Call { Object get(); }
+
+    static final int PROMISES = 22;
 
     private int passed = 0, failed = 0;
     private String test = "";
@@ -24,6 +32,36 @@ final class Checks {
     static Object answer(Call call) {
         try { return call.get(); }
         catch (RuntimeException e) { return "throws." + e.getClass().getSimpleName(); }
+    }
+
+    /** Runs each method of an object that is named after a number (promise02_.., rule11_..): which numbers there were. */
+    Set<Integer> runAll(Object tests, String word) throws IllegalAccessException {
+        Set<Integer> numbers = new TreeSet<>();
+        Method[] methods = tests.getClass().getDeclaredMethods();
+        Arrays.sort(methods, Comparator.comparing(Method::getName));
+        for (Method m : methods) {
+            if (!m.getName().matches(word + "\\d\\d_.*")) continue;
+            numbers.add(Integer.parseInt(m.getName().substring(word.length(), word.length() + 2)));
+            m.setAccessible(true);
+            run(tests, m);
+        }
+        return numbers;
+    }
+
+    private void run(Object tests, Method m) throws IllegalAccessException {
+        under(m.getName());
+        try {
+            m.invoke(tests);
+        } catch (InvocationTargetException e) {
+            same("ends by itself", e.getCause().toString(), "no exception");
+        }
+    }
+
+    /** Runs the tests of all promises; each promise must have one. */
+    void runPromises(Object tests) throws IllegalAccessException {
+        Set<Integer> numbers = runAll(tests, "promise");
+        under("all promises");
+        for (int p = 1; p <= PROMISES; p++) same("promise " + p + " has tests", numbers.contains(p), true);
     }
 
     int end(String name) {

@@ -1,15 +1,15 @@
 import java.lang.reflect.Constructor;
 import java.lang.reflect.Field;
-import java.lang.reflect.Member;
 import java.lang.reflect.Method;
 import java.lang.reflect.Modifier;
-import java.util.Arrays;
+import java.util.List;
 import java.util.Set;
 import java.util.TreeSet;
 
-/** The class has the face of the document and no other. */
+/** The class has the face of the document, each promise its call, and no other. */
 public final class FaceTest {
-    private static final Set<String> FACE = new TreeSet<>(Arrays.asList(
+    /** Promise 1 is the constructor; the calls of the promises behind it, by their numbers. */
+    private static final List<String> CALLS = List.of(
         "int atom(int) IllegalArgumentException UnsupportedOperationException",
         "int bond(int,int,int) IndexOutOfBoundsException IllegalArgumentException UnsupportedOperationException",
         "int cut(int) IndexOutOfBoundsException",
@@ -30,42 +30,62 @@ public final class FaceTest {
         "int place(int,int) IndexOutOfBoundsException",
         "int sets()",
         "int told(int) IllegalArgumentException",
-        "void clear()"));
+        "void clear()");
+
+    private final Checks c = new Checks();
+    private final Class<?> face = RingSearch.class;
 
     public static void main(String[] args) throws Exception {
-        Checks c = new Checks();
-        Class<?> face = RingSearch.class;
-        c.same("public and final", Modifier.isPublic(face.getModifiers()) && Modifier.isFinal(face.getModifiers()), true);
-        Set<String> methods = new TreeSet<>();
-        Set<String> names = new TreeSet<>();
-        for (Method m : face.getDeclaredMethods()) {
-            if (Modifier.isPrivate(m.getModifiers())) continue;
-            c.same("public " + m.getName(), Modifier.isPublic(m.getModifiers()) && !Modifier.isStatic(m.getModifiers()), true);
-            methods.add(told(m));
-            names.add(m.getName());
-        }
-        c.same("methods", methods, FACE);
-        for (Field f : face.getDeclaredFields()) if (!Modifier.isPrivate(f.getModifiers())) c.same("field", f.getName(), "NONE");
+        FaceTest t = new FaceTest();
+        t.c.runAll(t, "promise");
+        t.eachCall();
+        t.c.runAll(t, "rule");
+        System.exit(t.c.end("FaceTest"));
+    }
+
+    private void promise01_face() throws Exception {
+        c.same("public and final", Modifier.toString(face.getModifiers()), "public final");
+        c.same("constructors", face.getDeclaredConstructors().length, 1);
+        for (Constructor<?> k : face.getDeclaredConstructors()) c.same("constructor", k.toString(), "public RingSearch()");
         Field none = face.getField("NONE");
         c.same("NONE", none.getType() + " " + Modifier.toString(none.getModifiers()), "int public static final");
-        for (Constructor<?> k : face.getDeclaredConstructors()) c.same("constructor", k.toString(), "public RingSearch()");
-        privateNames(c, face, names);
-        for (Class<?> inside : face.getDeclaredClasses()) {
-            c.same("inside " + inside, Modifier.isStatic(inside.getModifiers()) && !Modifier.isPublic(inside.getModifiers()), true);
-            privateNames(c, inside, names);
+        c.same("its number", none.getInt(null), -1);
+        c.same("no package", face.getPackageName(), "");
+    }
+
+    private void eachCall() {
+        Set<String> there = new TreeSet<>();
+        for (Method m : face.getDeclaredMethods()) if (Modifier.isPublic(m.getModifiers())) there.add(told(m));
+        for (int i = 0; i < CALLS.size(); i++) {
+            c.under(String.format("promise%02d_face", i + 2));
+            c.same("the call", there.contains(CALLS.get(i)), true);
         }
-        System.exit(c.end("FaceTest"));
     }
 
-    private static void privateNames(Checks c, Class<?> of, Set<String> taken) {
-        for (Method m : of.getDeclaredMethods())
-            if (!isPublic(m)) c.same("a name of the face at " + of + " " + m.getName(), taken.contains(m.getName()), false);
+    private void rule01_no_other_member_is_open() {
+        Set<String> open = new TreeSet<>();
+        for (Method m : face.getDeclaredMethods()) if (!Modifier.isPrivate(m.getModifiers())) open.add(told(m));
+        c.same("methods", open, new TreeSet<>(CALLS));
+        for (Field f : face.getDeclaredFields()) if (!Modifier.isPrivate(f.getModifiers())) c.same("field", f.getName(), "NONE");
+        for (Class<?> inside : face.getDeclaredClasses()) {
+            int m = inside.getModifiers();
+            c.same("class inside: " + inside, Modifier.isStatic(m) && !Modifier.isPublic(m) && !Modifier.isProtected(m), true);
+        }
     }
 
-    private static boolean isPublic(Member m) { return Modifier.isPublic(m.getModifiers()); }
+    private void rule01_no_private_method_bears_a_name_of_the_face() {
+        Set<String> names = new TreeSet<>();
+        for (Method m : face.getDeclaredMethods()) if (Modifier.isPublic(m.getModifiers())) names.add(m.getName());
+        for (Method m : face.getDeclaredMethods())
+            if (!Modifier.isPublic(m.getModifiers())) c.same(m.getName(), names.contains(m.getName()), false);
+        for (Class<?> inside : face.getDeclaredClasses())
+            for (Method m : inside.getDeclaredMethods()) c.same(inside + " " + m.getName(), names.contains(m.getName()), false);
+    }
 
     private static String told(Method m) {
-        StringBuilder out = new StringBuilder(m.getReturnType() + " " + m.getName() + "(");
+        StringBuilder out = new StringBuilder();
+        if (Modifier.isStatic(m.getModifiers())) out.append("static ");
+        out.append(m.getReturnType()).append(' ').append(m.getName()).append('(');
         for (int i = 0; i < m.getParameterCount(); i++) out.append(i > 0 ? "," : "").append(m.getParameterTypes()[i]);
         out.append(")");
         for (Class<?> e : m.getExceptionTypes()) out.append(" ").append(e.getSimpleName());

@@ -38,6 +38,7 @@ final class Oracle {
     }
 
     private static final class Fault extends RuntimeException {
+        private static final long serialVersionUID = 1L;
         final int code, place;
         Fault(int code, int place) { super("fault"); this.code = code; this.place = place; }
     }
@@ -164,28 +165,60 @@ final class Oracle {
 
     // ---- rings
 
-    /** All cycles as bits of bonds, in the document's order. */
-    static List<Long> cycles(Net g) {
-        List<Long> all = new ArrayList<>();
-        for (int s = 0; s < g.labels.size(); s++) grow(g, s, s, 1 << s, 0L, -1, all);
-        List<Long> distinct = new ArrayList<>(new TreeSet<>(all));
-        distinct.sort((x, y) -> Long.bitCount(x) != Long.bitCount(y)
-            ? Integer.compare(Long.bitCount(x), Long.bitCount(y)) : Long.compare(x, y));
-        return distinct;
+    /** What follows from a net. Of dense nets not all cycles can be gone through: then those of so many bonds at most. */
+    static final class Facts {
+        final long[] cycles;
+        final List<Long> rings;
+        final int[] parts, systems;
+        final long inRing;
+
+        Facts(Net g, int longest) {
+            cycles = cycles(g, longest);
+            rings = Oracle.rings(cycles);
+            parts = Oracle.parts(g);
+            systems = longest >= g.labels.size() ? Oracle.systems(g, cycles) : systemsByCuts(g);
+            long bits = 0;
+            for (int k = 0; k < systems.length; k++) if (systems[k] >= 0) bits |= 1L << k;
+            inRing = bits;
+            if (rings.size() != g.bonds.size() - g.labels.size() + Oracle.count(parts)) throw new IllegalStateException("longer cycles are rings too");
+        }
     }
 
-    private static void grow(Net g, int start, int at, int used, long bonds, int first, List<Long> all) {
+    static Facts facts(Net g) { return new Facts(g, 32); }
+
+    /** How many different numbers 0, 1, .. there are in a row. */
+    static int count(int[] row) { int m = -1; for (int v : row) m = Math.max(m, v); return m + 1; }
+
+    /** The cycles of at most so many bonds, as bits of bonds, in the document's order. */
+    static long[] cycles(Net g, int longest) {
+        Row all = new Row();
+        for (int s = 0; s < g.labels.size(); s++) grow(g, s, s, 1 << s, 0L, -1, longest, all);
+        long[] out = Arrays.copyOf(all.of, all.n);
+        for (int i = 0; i < out.length; i++) out[i] |= (long) Long.bitCount(out[i]) << 40;
+        Arrays.sort(out);
+        for (int i = 0; i < out.length; i++) out[i] &= (1L << 40) - 1;
+        return out;
+    }
+
+    private static final class Row {
+        long[] of = new long[16];
+        int n = 0;
+        void add(long y) { if (n == of.length) of = Arrays.copyOf(of, 2 * n); of[n++] = y; }
+    }
+
+    private static void grow(Net g, int start, int at, int used, long bonds, int first, int longest, Row all) {
+        if (Long.bitCount(bonds) == longest) return;
         for (int k = 0; k < g.bonds.size(); k++) {
             Bond b = g.bonds.get(k);
             if (!b.has(at) || (bonds >> k & 1) != 0) continue;
             int to = b.other(at);
             if (to == start && Long.bitCount(bonds) >= 2 && at > first) all.add(bonds | 1L << k);
-            if (to > start && (used >>> to & 1) == 0) grow(g, start, to, used | 1 << to, bonds | 1L << k, first < 0 ? to : first, all);
+            if (to > start && (used >>> to & 1) == 0) grow(g, start, to, used | 1 << to, bonds | 1L << k, first < 0 ? to : first, longest, all);
         }
     }
 
     /** Kept as the document says: each cycle in order, if it is no sum of some that are kept. */
-    static List<Long> rings(List<Long> cycles) {
+    static List<Long> rings(long[] cycles) {
         List<Long> kept = new ArrayList<>();
         long[] byTop = new long[64];
         for (long c : cycles) {
@@ -226,7 +259,7 @@ final class Oracle {
     }
 
     /** A ring system for each bond, by all cycles; -1 for a bridge. */
-    static int[] systems(Net g, List<Long> cycles) {
+    static int[] systems(Net g, long[] cycles) {
         int m = g.bonds.size();
         int[] of = new int[m];
         Arrays.fill(of, -1);
@@ -243,6 +276,36 @@ final class Oracle {
         return numbered(of);
     }
 
+    /** The same without cycles: two bonds of an atom lie in one if their other ends hang together without it. */
+    static int[] systemsByCuts(Net g) {
+        int m = g.bonds.size();
+        int[] of = new int[m];
+        for (int k = 0; k < m; k++) of[k] = hangTogether(g, g.bonds.get(k).a, g.bonds.get(k).b, k, -1) ? k : -1;
+        for (int i = 0; i < m; i++) for (int k = 0; k < i; k++) {
+            int v = shared(g.bonds.get(i), g.bonds.get(k));
+            if (v < 0 || of[i] < 0 || of[k] < 0 || of[i] == of[k]) continue;
+            if (hangTogether(g, g.bonds.get(i).other(v), g.bonds.get(k).other(v), -1, v)) unite(of, of[i], of[k]);
+        }
+        return numbered(of);
+    }
+
+    private static void unite(int[] of, int a, int b) {
+        for (int k = 0; k < of.length; k++) if (of[k] == Math.max(a, b)) of[k] = Math.min(a, b);
+    }
+
+    private static int shared(Bond x, Bond y) { return y.has(x.a) ? x.a : y.has(x.b) ? x.b : -1; }
+
+    private static boolean hangTogether(Net g, int a, int b, int withoutBond, int withoutAtom) {
+        Set<Integer> met = new HashSet<>(Set.of(a));
+        for (int pass = 0; pass < g.labels.size(); pass++)
+            for (int k = 0; k < g.bonds.size(); k++) {
+                Bond x = g.bonds.get(k);
+                if (k == withoutBond || x.has(withoutAtom)) continue;
+                if (met.contains(x.a) || met.contains(x.b)) { met.add(x.a); met.add(x.b); }
+            }
+        return met.contains(b);
+    }
+
     private static int[] numbered(int[] least) {
         TreeSet<Integer> names = new TreeSet<>();
         for (int x : least) if (x >= 0) names.add(x);
@@ -250,6 +313,21 @@ final class Oracle {
         int[] out = new int[least.length];
         for (int i = 0; i < out.length; i++) out[i] = least[i] < 0 ? -1 : order.indexOf(least[i]);
         return out;
+    }
+
+    static int ofSize(long[] cycles, int size) { int n = 0; for (long y : cycles) if (Long.bitCount(y) == size) n++; return n; }
+
+    static int leastAt(Net g, long[] cycles, int a) {
+        for (long y : cycles)
+            for (int k = 0; k < g.bonds.size(); k++) if ((y >> k & 1) != 0 && g.bonds.get(k).has(a)) return Long.bitCount(y);
+        return 0;
+    }
+
+    /** Whether some bonds are a sum of rings, by going through all sums. */
+    static boolean isSum(List<Long> rings, long bonds) {
+        Set<Long> sums = new HashSet<>(Set.of(0L));
+        for (long r : rings) for (long y : new ArrayList<>(sums)) sums.add(y ^ r);
+        return sums.contains(bonds);
     }
 
     static int between(Net g, int a, int b) {
@@ -316,9 +394,7 @@ final class Oracle {
     // ---- places
 
     /** Every row of different atoms is tried, atom by atom, against the whole of what is wanted. */
-    static List<int[]> places(Net p, Net g, List<Long> cycles) {
-        long inRing = 0;
-        for (long c : cycles) inRing |= c;
+    static List<int[]> places(Net p, Net g, long inRing) {
         List<int[]> all = new ArrayList<>();
         tryAtom(p, g, inRing, new int[p.labels.size()], 0, all);
         return all;
