@@ -1610,6 +1610,24 @@ public final class BoundariesTest {
         finds(k7(), "?????", 2520);
     }
 
+    /** A cube with a tail of two atoms: 10 atoms, 14 bonds, and a cube can be turned in six ways about a corner. */
+    private void promise18_a_pattern_of_10_atoms_and_14_bonds() {
+        String cube = "a12a3a4a1a5a4a3a25a";
+        finds(Checks.molecule(cube + "a"), cube + "a", 6);
+        finds(Checks.molecule(cube + "=a"), cube + "=a", 6);
+        finds(Checks.molecule(cube + "a"), cube + "=a", 0);
+        finds(Checks.molecule(cube + "a"), cube + "*/a", 6);
+        finds(Checks.molecule(cube + "a"), cube + "*@a", 0);
+        finds(Checks.molecule(cube + "a"), cube + "[a=1]", 6);
+        finds(Checks.molecule(cube + "ab"), cube + "[a=1]", 0);
+        RingSearch x = Checks.molecule(cube + "a");
+        Checks.pattern(x, cube + "a");
+        x.search();
+        is("bonds", x.told(7), 14);
+        for (int i = 0; i < 6; i++) is("the tail's end", x.place(i, 9), 9);
+        is("alike", x.sets(), 1);
+    }
+
     /**
      * A centre with three hubs of five leaves each: 20 * 20 * 5 places of the pattern. Before or behind it a
      * small one with just the pattern's atoms, which has 4 places more.

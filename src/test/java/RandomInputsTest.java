@@ -234,6 +234,33 @@ public final class RandomInputsTest {
         });
     }
 
+    private void promise18_patterns_of_up_to_10_atoms_and_14_bonds() {
+        for (int i = 0; i < 500; i++) {
+            Oracle.Net g = onePart(7 + i % 4, 8 + random.nextInt(7));
+            String text = Oracle.write(g);
+            RingSearch x = Checks.molecule(text);
+            c.same(text, Checks.pattern(x, text), g.labels.size());
+            Oracle.Net molecule = Oracle.parse(text, false).net, pattern = Oracle.parse(text, true).net;
+            List<int[]> due = Oracle.places(pattern, molecule, Oracle.facts(molecule).inRing);
+            c.same(text + " places", x.search(), due.size());
+            c.same(text + " the last one's last atom", x.place(x.told(8) - 1, g.labels.size() - 1), due.get(Math.min(2000, due.size()) - 1)[g.labels.size() - 1]);
+        }
+    }
+
+    private Oracle.Net onePart(int atoms, int bonds) {
+        Oracle.Net g = new Oracle.Net();
+        g.labels.add(0);
+        for (int a = 1; a < atoms; a++) {
+            g.labels.add(0);
+            g.bonds.add(new Oracle.Bond(random.nextInt(4) == 0 && g.degree(0) < 6 ? 0 : a - 1, a, 0, 0));
+        }
+        for (int turn = 0; turn < 200 && g.bonds.size() < bonds; turn++) {
+            int a = random.nextInt(atoms), b = random.nextInt(atoms);
+            if (a != b && g.find(a, b) < 0 && g.degree(a) < 6 && g.degree(b) < 6) g.bonds.add(new Oracle.Bond(a, b, 0, 0));
+        }
+        return g;
+    }
+
     private void promise19_atoms_of_places() {
         eachPattern(3, (name, x, due, width) -> {
             x.search();
